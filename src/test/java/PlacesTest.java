@@ -142,7 +142,7 @@ public final class PlacesTest {
         CHECKS.same("stands left", press.side(0, 0), 1);
         CHECKS.same("back right", Checks.tell(press, 0, "abc"), 0);
         CHECKS.same("no letters meet", Checks.tell(press, 1, "b"), 0);
-        CHECKS.same("one is told left of the greater's dot",
+        CHECKS.same("eight letters right of the greater one",
                 Checks.tell(press, 1, "bbbbbbbb"), 0);
         CHECKS.same("pushed by a dot", press.place(21, 10, 1), 2);
         CHECKS.same("the greater stands left", press.side(0, 1), 2);
