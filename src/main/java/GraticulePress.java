@@ -191,7 +191,7 @@ public final class GraticulePress {
     }
 
     private static boolean isOnGrid(int row, int column) {
-        return isWithin(row, 0, ROWS - 1) && isWithin(column, 0, COLUMNS - 1);
+        return row >= 0 && row < ROWS && column >= 0 && column < COLUMNS;
     }
 
     private Place placeNumbered(int number) {

@@ -1,6 +1,8 @@
 /** Counts the answers of a test that are not the due ones. */
 final class Checks {
     private final String test;
+    private String sentence = "";
+    private int sentences;
     private int made;
     private int wrong;
 
@@ -8,27 +10,39 @@ final class Checks {
         this.test = test;
     }
 
+    /** Runs the test of one sentence; what it finds wrong is told with the sentence's words. */
+    void sentence(String where, String words, Runnable check) {
+        sentence = where + ", \"" + words + "\": ";
+        sentences++;
+        int madeAhead = made;
+        try {
+            check.run();
+            holds("that something is checked", made > madeAhead);
+        } catch (RuntimeException e) {
+            made++;
+            tellWrong("threw " + e);
+        }
+        sentence = "";
+    }
+
     void same(String what, long got, long due) {
         made++;
         if (got != due) {
-            wrong++;
-            System.out.println(test + ": " + what + " answered " + got + ", due is " + due);
+            tellWrong(what + " answered " + got + ", due is " + due);
         }
     }
 
     void same(String what, String got, String due) {
         made++;
         if (!got.equals(due)) {
-            wrong++;
-            System.out.println(test + ": " + what + " answered " + got + ", due is " + due);
+            tellWrong(what + " answered " + got + ", due is " + due);
         }
     }
 
     void holds(String what, boolean holding) {
         made++;
         if (!holding) {
-            wrong++;
-            System.out.println(test + ": " + what + " does not hold");
+            tellWrong(what + " does not hold");
         }
     }
 
@@ -53,13 +67,19 @@ final class Checks {
             got = e.getClass().getSimpleName();
         }
         if (!got.equals(due.getSimpleName())) {
-            wrong++;
-            System.out.println(test + ": " + what + " threw " + got
-                    + ", due is " + due.getSimpleName());
+            tellWrong(what + " threw " + got + ", due is " + due.getSimpleName());
         }
     }
 
+    private void tellWrong(String what) {
+        wrong++;
+        System.out.println(test + ": " + sentence + what);
+    }
+
     void end() {
+        if (sentences > 0) {
+            System.out.println(test + ": " + sentences + " sentences, each by its own test");
+        }
         System.out.println(test + ": " + (made - wrong) + " of " + made + " answers are as due");
         if (wrong != 0 || made == 0) {
             System.exit(1);
